@@ -861,13 +861,6 @@ public final class MarrowHeap {
         forwards[number] = 0;
       }
     }
-
-    void empty(int number) {
-      if (isPage(number)) {
-        used[number] = 0;
-        forwards[number] = 0;
-      }
-    }
   }
 
   /**
@@ -988,7 +981,6 @@ public final class MarrowHeap {
     /** Called ahead of each change of a page, so that the image of before is as it was at the first one. */
     void change(int transaction, int page) {
       if (page == pageCount && pageCount < MOST_PAGES) {
-        now.empty(page);
         pageMaker[page] = transaction;
         pageCount++;
       }
@@ -1762,7 +1754,7 @@ public final class MarrowHeap {
 
   /** The indexes, kept as the value with which each object stands in each of them. */
   private static final class Indexes {
-    private static final int NOWHERE = Integer.MIN_VALUE;
+    private static final int NOWHERE = MOST_VALUE + 1;
 
     int count;
     private final Store store;

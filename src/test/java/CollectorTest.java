@@ -16,6 +16,7 @@ public final class CollectorTest {
     markGoesFromTheLowest();
     markCountsWhatWouldBeUndone();
     markComesBackForRoots();
+    markComesBackForHeldOnes();
     barrierGreysTargets();
     noBarrierElsewhere();
     newObjectsAreBlack();
@@ -227,6 +228,27 @@ public final class CollectorTest {
     z.begin(1);
     Check.sameText("nothing more", colours(z, 2), "bw m");
     step(z, 2, "b- s");
+  }
+
+  /** What a transaction holds alone can lose its last way from a grey object while it is white. */
+  private static void markComesBackForHeldOnes() {
+    MarrowHeap x = with(1, 0);
+    x.link(0, 0, 0, 1);
+    x.commit(0);
+    x.collect(2);
+    step(x, 2, "gw m");
+    x.begin(1);
+    Check.same("held alone", x.lock(1, 1), 1);
+    x.begin(0);
+    Check.same("the one that refers to it", x.callEnd(0), 0);
+    x.link(0, 0, 0, -1);
+    x.commit(0);
+    step(x, 2, "bw m");
+    step(x, 2, "bg m");
+    step(x, 2, "bb m");
+    Check.same("cycles", x.cycles(), 1);
+    step(x, 2, "wg m");
+    Check.same("cycles", x.cycles(), 2);
   }
 
   private static void barrierGreysTargets() {

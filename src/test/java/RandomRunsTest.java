@@ -281,6 +281,9 @@ public final class RandomRunsTest {
     }
     int t = transaction();
     int pick = random.nextInt(100);
+    if (!model.waiting.isEmpty() && chance(1, 6)) {
+      return chance(1, 2) ? new Object[] {"callEnd", t} : new Object[] {"lock", t, object()};
+    }
     if (pick < collecting) {
       return new Object[] {"collect", chance(1, 3) ? number(99) : 1 + random.nextInt(4)};
     }
