@@ -24,9 +24,13 @@ public final class EdgeCollectorTest {
     markGreysWhatWouldBeUndone();
     markComesBackWhenNoneIsGrey();
     weakLosesAllThatAreWhite();
+    weakLosesOneOfAnyField();
+    weakLosesNoOtherReference();
     endWaitsOnceOnly();
+    endByAKindAbove();
     sweepFreesTheLowest();
     fixSetsAllRightAndThenDropsForwards();
+    fixSetsNothingElse();
     changedPagesHinder();
     settingGreysInOnePhase();
     Check.end("EdgeCollectorTest");
@@ -511,6 +515,80 @@ public final class EdgeCollectorTest {
     Edge.same("freed", x.phase(), 's');
   }
 
+  private static void weakLosesOneOfAnyField() {
+    Edge.says(Edge.TERMS, "the lowest-numbered object with a weak reference to a white object loses all of its weak "
+        + "references to white ones.");
+    for (int field = 0; field < 6; field++) {
+      MarrowHeap x = new MarrowHeap();
+      x.addKind(-1, false);
+      for (int i = 0; i < 6; i++) {
+        x.addField(0, i == field ? 'w' : 'n');
+      }
+      x.begin(0);
+      x.make(0, 0);
+      x.make(0, 0);
+      x.link(0, 0, field, 1);
+      for (int i = 0; i < 6; i++) {
+        if (i != field) {
+          x.setNumber(0, 0, i, 1);
+        }
+      }
+      x.setRoot(0, 0, 0);
+      x.commit(0);
+      x.collect(2);
+      step(x, 2, "bw w");
+      x.begin(0);
+      x.lock(0, 0);
+      Edge.same("lost by field " + field, x.follow(0, 0, field), -1);
+      for (int i = 0; i < 6; i++) {
+        if (i != field) {
+          Edge.same("a number stays", x.number(0, 0, i), 1);
+        }
+      }
+    }
+  }
+
+  /** Object 0 is white itself; what it refers to by a reference that is not weak must come back with it. */
+  private static void weakLosesNoOtherReference() {
+    Edge.says(Edge.TERMS, "loses all of its weak references to white ones.");
+    MarrowHeap x = with(1, 0, 0);
+    x.link(0, 0, 0, 1);
+    x.link(0, 0, 1, 2);
+    x.commit(0);
+    x.collect(1);
+    step(x, 3, "www w");
+    step(x, 3, "bbw e");
+    step(x, 3, "bb- s");
+    x.begin(0);
+    Edge.same("the first that waits", x.callEnd(0), 0);
+    Edge.same("the reference stays", x.follow(0, 0, 0), 1);
+    Edge.same("the weak one is lost", x.follow(0, 0, 1), -1);
+  }
+
+  private static void endByAKindAbove() {
+    Edge.says(Edge.TERMS, "the lowest-numbered white object that has an end, by its kind or one above");
+    for (int top = 0; top < 8; top++) {
+      MarrowHeap x = new MarrowHeap();
+      for (int kind = 0; kind < 8; kind++) {
+        x.addKind(kind - 1, kind == top);
+      }
+      x.begin(0);
+      for (int kind = 0; kind < 8; kind++) {
+        x.make(0, kind);
+      }
+      x.commit(0);
+      x.collect(1);
+      for (int kind = top; kind < 8; kind++) {
+        Edge.same("a step", x.collect(1), 1);
+        Edge.same("of e", x.phase(), 'e');
+        Edge.same("wait, by kind " + top, x.ends(), kind - top + 1);
+      }
+      x.collect(1);
+      Edge.same("no more wait", x.ends(), 8 - top);
+      Edge.same("the one without an end is freed, or there is none", x.exists(0) ? 1 : 0, top == 0 ? 1 : 0);
+    }
+  }
+
   private static void endWaitsOnceOnly() {
     Edge.says(Edge.TERMS, "the lowest-numbered white object that has an end, by its kind or one above, and was not "
         + "called and does not wait, waits for its end from now on, and becomes black, as do all objects that are "
@@ -576,6 +654,51 @@ public final class EdgeCollectorTest {
     x.lock(0, 0);
     Edge.same("followed", x.follow(0, 0, 0), 1);
     Edge.same("by no forward", x.forwarded(), 0);
+  }
+
+  private static void fixSetsNothingElse() {
+    Edge.says(Edge.TERMS, "gets all its references to know the right pages");
+    MarrowHeap x = new MarrowHeap();
+    x.addKind(-1, false);
+    x.addKind(-1, false);
+    for (char type : "nrwrw".toCharArray()) {
+      x.addField(0, type);
+    }
+    x.begin(0);
+    x.make(0, 0);
+    for (int object = 1; object <= 10; object++) {
+      x.make(0, 1);
+    }
+    x.setNumber(0, 0, 0, 7);
+    x.link(0, 0, 1, 1);
+    x.link(0, 0, 2, 2);
+    x.link(0, 0, 4, 1);
+    x.setRoot(0, 0, 0);
+    x.setRoot(0, 1, 2);
+    x.addField(1, 'n');
+    x.setNumber(0, 1, 5, 8);
+    x.setNumber(0, 2, 5, 9);
+    Edge.same("two have moved", x.forwardsIn(0), 2);
+    x.commit(0);
+    while (x.phase() != 'f') {
+      x.collect(1);
+    }
+    Edge.same("one step for the one object", x.forwardsIn(0), 2);
+    Edge.same("a step", x.collect(1), 1);
+    Edge.same("forwards", x.forwardsIn(0), 0);
+    Edge.same("in f", x.phase(), 'f');
+    x.begin(0);
+    x.lock(0, 0);
+    x.lock(0, 2);
+    Edge.same("the number", x.number(0, 0, 0), 7);
+    int[] due = {1, 2, -1, 1};
+    for (int field = 1; field <= 4; field++) {
+      Edge.same("reference " + field, x.follow(0, 0, field), due[field - 1]);
+    }
+    Edge.same("by no forward", x.forwarded(), 0);
+    Edge.same("the numbers of the others", 10 * x.number(0, 1, 5) + x.number(0, 2, 5), 89);
+    Edge.same("used of page 0", x.usedOf(0), 6);
+    Edge.same("used of page 1", x.usedOf(1), 4);
   }
 
   private static void changedPagesHinder() {

@@ -13,6 +13,7 @@ public final class EdgeFullTest {
     collector();
     figures();
     oneStepBack();
+    pagesChangedThen();
     Check.end("EdgeFullTest");
   }
 
@@ -158,5 +159,24 @@ public final class EdgeFullTest {
     Edge.same("and the first leaves for a third", x.number(0, 18, 1), 0);
     Edge.no("page 0", x.isInMemory(0));
     Edge.same("begun again", x.begin(2), 3);
+  }
+
+  private static void pagesChangedThen() {
+    Edge.says(Edge.TERMS, "When it is aborted, all pages that it changed are as they were when it changed them first");
+    for (boolean keep : new boolean[] {true, false}) {
+      MarrowHeap x = Scene.FULL.fresh();
+      Edge.same("2 pages may leave memory", x.commit(2), 2);
+      Edge.same("page 0 is changed first now", x.setNumber(0, 0, 1, 5), 0);
+      Edge.same("page 1 too", x.setNumber(0, 9, 1, 6), 0);
+      Edge.refusesHere(x, "no fifth page", Edge.OPERATION, () -> x.number(0, 18, 1));
+      Edge.same("pages that it changed", keep ? x.commit(0) : x.abort(0), 3);
+      Edge.same("page 8 is in the middle: it stays", x.pages(), 12);
+      Edge.same("used of it", x.usedOf(8), keep ? 16 : 0);
+      x.begin(0);
+      Edge.same("the chain", x.lock(0, 60), 8);
+      Edge.same("number of page 0", x.number(0, 0, 1), keep ? 5 : 0);
+      Edge.same("number of page 1", x.number(0, 9, 1), keep ? 6 : 0);
+      Edge.yes("sound", x.isSound());
+    }
   }
 }

@@ -18,6 +18,7 @@ public final class EdgeIndexesTest {
     addIndexRefusesOtherFieldsBetween();
     addIndexRefusesFieldsBehindNone();
     addIndexTriesAllPaths();
+    addIndexOfTwentyFields();
     addIndexRefusesTheFourth();
     countOfRefusesIndexesThatAreNotThere();
     countOfTakesAnyValue();
@@ -147,6 +148,33 @@ public final class EdgeIndexesTest {
     }
   }
 
+  /** Fields 0 to 17 are of three kinds, 18 'r' and 19 'n' of the fourth. */
+  private static void addIndexOfTwentyFields() {
+    Edge.says(38, WRONG_PATH, "its last field must be of the type 'n'");
+    Scene twenty = Scene.of(() -> {
+      MarrowHeap x = new MarrowHeap();
+      for (int kind = 0; kind < 4; kind++) {
+        x.addKind(-1, false);
+      }
+      for (int field = 0; field < 20; field++) {
+        x.addField(field / 6, field == 18 ? 'r' : 'n');
+      }
+      return x;
+    });
+    Edge.answers(twenty, "the last field", 0, x -> x.addIndex(3, 19, -1, -1));
+    Edge.answers(twenty, "the last field behind a reference", 0, x -> x.addIndex(3, 18, 19, -1));
+    Edge.answers(twenty, "the last field behind two", 0, x -> x.addIndex(3, 18, 18, 19));
+    for (Scene scene : new Scene[] {twenty, Scene.FULL}) {
+      int reference = scene == twenty ? 18 : 2;
+      for (int field : new int[] {20, 21, 99, Edge.GREATEST}) {
+        Edge.refuses(scene, "alone: " + field, Edge.ARGUMENT, x -> x.addIndex(0, field, -1, -1));
+        Edge.refuses(scene, "second: " + field, Edge.ARGUMENT, x -> x.addIndex(0, reference, field, -1));
+        Edge.refuses(scene, "third: " + field, Edge.ARGUMENT, x -> x.addIndex(0, reference, reference, field));
+        Edge.refuses(scene, "first of two: " + field, Edge.ARGUMENT, x -> x.addIndex(0, field, 0, -1));
+      }
+    }
+  }
+
   private static void addIndexRefusesTheFourth() {
     Edge.says(38, "Throws `IllegalStateException` if there are 3 indexes");
     for (int count = 0; count < 3; count++) {
@@ -251,6 +279,35 @@ public final class EdgeIndexesTest {
     x.link(0, 1, 1, 0);
     count(x, "back to 0: from 0", 2, 0, 1);
     count(x, "and to 1: from 1", 2, 5, 1);
+    threeDifferentFields();
+  }
+
+  private static void threeDifferentFields() {
+    MarrowHeap x = base();
+    x.addIndex(0, 1, 4, 5);
+    x.addIndex(1, 4, 1, 3);
+    x.addIndex(1, 4, 5, -1);
+    x.begin(0);
+    x.make(0, 0);
+    x.make(0, 1);
+    x.make(0, 2);
+    x.link(0, 0, 1, 1);
+    x.link(0, 1, 4, 2);
+    x.setNumber(0, 0, 0, 1);
+    x.setNumber(0, 1, 0, 2);
+    x.setNumber(0, 1, 3, 3);
+    x.setNumber(0, 2, 5, 4);
+    count(x, "from 0 over 1 to field 5 of 2", 0, 4, 1);
+    count(x, "from 1 to field 5 of 2", 2, 4, 1);
+    count(x, "from 1 over 2, which has no field 1", 1, 3, 0);
+    x.link(0, 1, 4, 0);
+    count(x, "from 1 over 0 to field 3 of 1", 1, 3, 1);
+    count(x, "0 has no field 5", 0, 4, 0);
+    count(x, "nor from 1", 2, 4, 0);
+    for (int index = 0; index < 3; index++) {
+      count(x, "not by field 0", index, 1, 0);
+      count(x, "nor that of 1", index, 2, 0);
+    }
   }
 
   private static void noneStandsOverNoReference() {

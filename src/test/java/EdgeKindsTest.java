@@ -328,6 +328,29 @@ public final class EdgeKindsTest {
     for (int field = 0; field < 3; field++) {
       Edge.same("is its own: " + field, x.number(0, 0, field), field + 1);
     }
+    kindsThatCameLaterHaveThemToo();
+  }
+
+  private static void kindsThatCameLaterHaveThemToo() {
+    MarrowHeap x = fields(3);
+    for (int kind = 1; kind < 8; kind++) {
+      x.addKind(kind - 1, false);
+      Edge.same("fields of kind " + kind, x.fieldsOf(kind), 3);
+    }
+    x.begin(0);
+    for (int kind = 1; kind < 8; kind++) {
+      int object = x.make(0, kind);
+      Edge.same("size", x.sizeOf(object), 4);
+      Edge.same("a number", x.setNumber(0, object, 0, 5), 0);
+      Edge.same("a reference", x.link(0, object, 1, object), -1);
+      Edge.same("a weak one", x.link(0, object, 2, 0), -1);
+      Edge.same("the number then", x.number(0, object, 0), 5);
+      Edge.same("the reference then", x.follow(0, object, 1), object);
+      Edge.same("the weak one then", x.follow(0, object, 2), 0);
+      Edge.fails("the number is no reference", Edge.ELEMENT, () -> x.follow(0, object, 0));
+      Edge.fails("the weak one is no number", Edge.ELEMENT, () -> x.number(0, object, 2));
+      Edge.fails("no field more", Edge.ELEMENT, () -> x.number(0, object, 3));
+    }
   }
 
   private static void objectsHaveTheFieldsOfTheirTime() {

@@ -20,6 +20,7 @@ public final class EdgePagesTest {
     madeObjectsComeIntoTheLowestPage();
     madeObjectsComeIntoANewPage();
     convertedObjectsStayIfThereIsRoom();
+    convertedObjectsThatStayNeedNoOtherPage();
     movedObjectsLeaveAForward();
     movedObjectsGoWhereMadeOnesGo();
     pagesCanBeChangedByOne();
@@ -306,6 +307,57 @@ public final class EdgePagesTest {
         Edge.same(what + ": pages", x.pages(), stays ? 1 : 2);
       }
     }
+  }
+
+  /** No page has room for the whole of an object, but each has one unit, by which one of its objects can grow. */
+  private static void convertedObjectsThatStayNeedNoOtherPage() {
+    Edge.says(Edge.TERMS, "An object that is converted stays in its page if this has room for its new size");
+    Scene twelve = Scene.of(() -> {
+      MarrowHeap x = almostFull(12);
+      x.addField(0, 'n');
+      return x;
+    });
+    for (int page = 0; page < 12; page++) {
+      int object = 3 * page;
+      MarrowHeap x = Edge.answers(twelve, "12 pages, in page " + page, 0, y -> y.number(0, object, 4));
+      Edge.same("it stays", x.pageOf(object), object / 3);
+      Edge.same("the page is full", x.usedOf(object / 3), 16);
+      Edge.refusesHere(x, "the next has no room", Edge.OPERATION, () -> x.number(0, object + 1, 4));
+    }
+    Scene five = Scene.of(() -> {
+      MarrowHeap x = almostFull(5);
+      for (int page = 0; page < 3; page++) {
+        x.setNumber(0, 3 * page, 0, 1);
+      }
+      x.addField(0, 'n');
+      return x;
+    });
+    MarrowHeap x = Edge.answers(five, "3 other pages are changed", 0, y -> y.number(0, 9, 4));
+    Edge.sameText("its page is the fourth in memory", memory(x), "++++-");
+    Edge.refusesHere(x, "a fifth", Edge.OPERATION, () -> x.number(0, 12, 4));
+    Edge.refusesHere(x, "nor one that must move", Edge.OPERATION, () -> x.number(0, 10, 4));
+  }
+
+  /** Pages of three objects of size 5 with one free unit; all objects are a chain, which transaction 0 holds. */
+  private static MarrowHeap almostFull(int pages) {
+    MarrowHeap x = of("nrwn");
+    for (int page = 0; page < pages; page++) {
+      make(x, 0, 0, 3);
+      for (int object = 3 * page; object < 3 * page + 3; object++) {
+        if (object > 0) {
+          x.lock(0, object - 1);
+          x.link(0, object, 1, object - 1);
+        }
+      }
+      x.setRoot(0, 0, 3 * page + 2);
+      x.commit(0);
+      x.begin(0);
+      Edge.same("used", x.usedOf(page), 15);
+    }
+    x.crash(-1, 0);
+    x.begin(0);
+    x.lock(0, 3 * pages - 1);
+    return x;
   }
 
   private static void movedObjectsLeaveAForward() {

@@ -721,6 +721,23 @@ public final class EdgeTransactionsTest {
     x.abort(1);
     Edge.same("a page that it did not make stays", x.pages(), 1);
     Edge.same("empty", x.usedOf(0), 0);
+    x.begin(0);
+    fill(x, 0, 1);
+    x.abort(0);
+    Edge.same("nor did 0, which made it the time before, make it this time", x.pages(), 1);
+    MarrowHeap kept = opened(0);
+    fill(kept, 0, 17);
+    kept.commit(0);
+    kept.collect(40);
+    Edge.same("two empty pages", kept.pages() + kept.usedOf(0) + kept.usedOf(1), 2);
+    kept.begin(0);
+    kept.abort(0);
+    Edge.same("made by 0, but it committed", kept.pages(), 2);
+    kept.begin(0);
+    fill(kept, 0, 40);
+    Edge.same("the third is made now", kept.pages(), 3);
+    kept.crash(-1, 0);
+    Edge.same("it alone is gone", kept.pages(), 2);
   }
 
   private static void fill(MarrowHeap x, int transaction, int count) {

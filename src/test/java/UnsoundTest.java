@@ -61,6 +61,29 @@ public final class UnsoundTest {
     value[1][2] = -1;
     value[1][1] = 2;
     Check.no("what is in hand may not", x.isSound());
+    value[1][1] = -1;
+    Check.yes("none is none", x.isSound());
+    value[0][1] = 2;
+    Check.no("nor may the first object", x.isSound());
+    breakFirstReference();
+  }
+
+  private static void breakFirstReference() throws Exception {
+    MarrowHeap x = new MarrowHeap();
+    x.addKind(-1, false);
+    for (int field = 0; field < 6; field++) {
+      x.addField(0, 'r');
+    }
+    x.begin(0);
+    x.make(0, 0);
+    x.setRoot(0, 0, 0);
+    int[][] value = (int[][]) get(get(get(x, "store"), "now"), "value");
+    for (int field = 0; field < 6; field++) {
+      value[0][field] = 1;
+      Check.no("its reference " + field, x.isSound());
+      value[0][field] = -1;
+      Check.yes("right again", x.isSound());
+    }
   }
 
   private static void breakIndex() throws Exception {
