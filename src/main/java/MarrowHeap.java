@@ -1630,12 +1630,17 @@ public final class MarrowHeap {
     private boolean greyHands() {
       boolean any = false;
       for (int number = 0; number < ROOTS; number++) {
-        any |= greyIfWhite(transactions.rootNow(number));
-        any |= greyIfWhite(transactions.rootIfUndone(number));
+        if (greyIfWhite(transactions.rootNow(number))) {
+          any = true;
+        }
+        if (greyIfWhite(transactions.rootIfUndone(number))) {
+          any = true;
+        }
       }
       for (int object = 0; object < store.made; object++) {
-        if (transactions.isHeld(object) || line.isWaiting(object)) {
-          any |= greyIfWhite(object);
+        boolean inHand = transactions.isHeld(object) || line.isWaiting(object);
+        if (inHand && greyIfWhite(object)) {
+          any = true;
         }
       }
       return any;

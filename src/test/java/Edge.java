@@ -6,8 +6,9 @@ import java.util.NoSuchElementException;
 import java.util.function.Consumer;
 
 /**
- * What the tests of the document's edges share. A test begins with says(): the promise (0 for the terms), and a
- * sentence that stands there word by word; what it checks bears both when it is wrong.
+ * What the tests of the document's sentences share (Edge*Test: its edges; Tells*Test: all others). A test begins
+ * with says(): the promise (0 for the terms), and a sentence that stands there word by word; what it checks bears both
+ * when it is wrong.
  */
 final class Edge {
   static final Class<IllegalArgumentException> ARGUMENT = IllegalArgumentException.class;
@@ -20,6 +21,7 @@ final class Edge {
   static final int LEAST = Integer.MIN_VALUE;
   static final int GREATEST = Integer.MAX_VALUE;
   static final int TERMS = 0;
+  static final int WHOLE = -1;
 
   private static final String DOCUMENT = read();
   private static String about = "";
@@ -37,16 +39,18 @@ final class Edge {
     }
   }
 
-  /** The part of the document in which a promise stands, or the terms. */
+  /** The part of the document in which a promise stands, or the terms, or what is said of it as a whole. */
   static String part(int promise) {
-    String head = promise == TERMS ? "\n## Terms\n" : "\n## Promise " + promise + ":";
+    String named = promise == TERMS ? "\n## Terms\n" : "\n## What it is\n";
+    String head = promise > TERMS ? "\n## Promise " + promise + ":" : named;
     int start = DOCUMENT.indexOf(head);
     int end = DOCUMENT.indexOf("\n## ", start + 1);
     return start < 0 || end < 0 ? "" : DOCUMENT.substring(start, end + 1);
   }
 
   static void says(int promise, String sentence) {
-    about = (promise == TERMS ? "terms" : "promise " + promise) + ", \"" + sentence + "\"";
+    String named = promise == TERMS ? "terms" : "what it is";
+    about = (promise > TERMS ? "promise " + promise : named) + ", \"" + sentence + "\"";
     Check.yes(about + ": does not stand there; it", part(promise).contains(sentence));
   }
 

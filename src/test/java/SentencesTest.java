@@ -1,6 +1,7 @@
 import java.nio.file.Files;
 import java.nio.file.Path;
 import java.util.ArrayList;
+import java.util.Arrays;
 import java.util.List;
 import java.util.TreeSet;
 import java.util.regex.Matcher;
@@ -8,8 +9,8 @@ import java.util.regex.Pattern;
 import java.util.stream.Stream;
 
 /**
- * Each sentence of the document that names an edge is named by a test: by a call of Edge.says in one of the files
- * Edge*Test.java. (That what is named there stands in the document, says() looks at itself.)
+ * Each sentence of the document is named by a test: by a call of Edge.says in one of the files Edge*Test.java, if it
+ * names an edge, or Tells*Test.java. (That what is named there stands in the document, says() looks at itself.)
  */
 public final class SentencesTest {
   private static final String[] TERMS = {
@@ -58,7 +59,12 @@ public final class SentencesTest {
   private static final Pattern JOINT = Pattern.compile("\"\\s*\\+\\s*\"");
   private static final Pattern CONSTANT = Pattern.compile("static final String (\\w+) =\\s*\"((?:[^\"\\\\]|\\\\.)*)\";");
   private static final Pattern SAYS = Pattern.compile(
-      "Edge\\.says\\((\\d+|Edge\\.TERMS),\\s*(\\w+|\"[^\"]*\")(?:,\\s*\"([^\"]*)\")?\\);");
+      "Edge\\.says\\((\\d+|Edge\\.TERMS|Edge\\.WHOLE),\\s*(\\w+|\"[^\"]*\")(?:,\\s*\"([^\"]*)\")?\\);");
+
+  /** What no test can show: heads, the signature of a call (see FaceTest), the names of the phases ahead of a text. */
+  private static final Pattern UNTESTED = Pattern.compile("^## .*$|^`[^`]*`: |^'[imwesf]': "
+      + "|^(Kinds|Pages|References|Memory|Transactions|Crashes|The collector|Indexes|Exceptions)\\. "
+      + "|^It is not thread-safe\\.$|A step looks like this, by the phase\\.");
 
   private final TreeSet<String> said = new TreeSet<>();
   private final TreeSet<String> cases = new TreeSet<>();
@@ -67,16 +73,17 @@ public final class SentencesTest {
     SentencesTest test = new SentencesTest();
     List<Path> files = new ArrayList<>();
     try (Stream<Path> all = Files.list(Path.of("src", "test", "java"))) {
-      all.filter(file -> file.getFileName().toString().matches("Edge\\w+Test\\.java")).sorted().forEach(files::add);
+      all.filter(file -> file.getFileName().toString().matches("(Edge|Tells)\\w+Test\\.java")).sorted().forEach(files::add);
     }
     for (Path file : files) {
       test.read(Files.readString(file));
     }
-    Check.yes("there are tests of edges", files.size() > 5);
+    Check.yes("there are tests of sentences", files.size() > 10);
     test.checkPromises();
     test.checkRanges();
     test.checkTerms();
     test.checkCases();
+    test.checkEveryWord();
     Check.end("SentencesTest");
   }
 
@@ -89,7 +96,7 @@ public final class SentencesTest {
     }
     Matcher says = SAYS.matcher(text);
     while (says.find()) {
-      String promise = says.group(1).equals("Edge.TERMS") ? "0" : says.group(1);
+      String promise = number(says.group(1));
       String sentence = says.group(2);
       if (sentence.startsWith("\"")) {
         sentence = sentence.substring(1, sentence.length() - 1);
@@ -104,6 +111,10 @@ public final class SentencesTest {
         cases.add(promise + " " + says.group(3));
       }
     }
+  }
+
+  private static String number(String promise) {
+    return promise.equals("Edge.TERMS") ? "0" : promise.equals("Edge.WHOLE") ? "-1" : promise;
   }
 
   /** Each sentence of a promise that begins with "Throws"; and each promise is named at all. */
@@ -155,5 +166,32 @@ public final class SentencesTest {
     for (String one : CASES) {
       Check.yes("case " + one + ": a test", cases.contains(one));
     }
+  }
+
+  /** Each word of the terms and of the promises stands in a sentence that is named. */
+  private void checkEveryWord() {
+    for (int promise = Edge.TERMS; promise <= 46; promise++) {
+      for (String line : Edge.part(promise).split("\n")) {
+        Check.sameText("promise " + promise + " (0 for the terms), what no test names of: " + line,
+            notNamed(promise, line), "");
+      }
+    }
+  }
+
+  private String notNamed(int promise, String line) {
+    char[] rest = line.toCharArray();
+    Matcher untested = UNTESTED.matcher(line);
+    while (untested.find()) {
+      Arrays.fill(rest, untested.start(), untested.end(), ' ');
+    }
+    for (String one : said) {
+      if (one.startsWith(promise + " ")) {
+        String sentence = one.substring(one.indexOf(' ') + 1);
+        for (int at = line.indexOf(sentence); at >= 0; at = line.indexOf(sentence, at + 1)) {
+          Arrays.fill(rest, at, at + sentence.length(), ' ');
+        }
+      }
+    }
+    return new String(rest).replaceAll("[^A-Za-z0-9]+", " ").trim();
   }
 }
