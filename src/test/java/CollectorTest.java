@@ -56,17 +56,9 @@ public final class CollectorTest {
     return x;
   }
 
-  private static String colours(MarrowHeap x, int count) {
-    StringBuilder text = new StringBuilder();
-    for (int object = 0; object < count; object++) {
-      text.append(x.exists(object) ? x.colourOf(object) : '-');
-    }
-    return text.append(' ').append(x.phase()).toString();
-  }
-
   private static void step(MarrowHeap x, int count, String due) {
     Check.same("collect(1)", x.collect(1), 1);
-    Check.sameText("colours", colours(x, count), due);
+    Check.sameText("colours", Look.colours(x, count), due);
   }
 
   private static void collectRefuses() {
@@ -93,19 +85,19 @@ public final class CollectorTest {
 
   private static void startColours() {
     MarrowHeap x = with(0, 0, 0);
-    Check.sameText("white at first", colours(x, 3), "www i");
+    Check.sameText("white at first", Look.colours(x, 3), "www i");
     x.link(0, 0, 0, 1);
     x.setRoot(0, 0, 0);
     x.commit(0);
     x.begin(1);
     x.make(1, 0);
-    Check.sameText("still white", colours(x, 4), "wwww i");
+    Check.sameText("still white", Look.colours(x, 4), "wwww i");
     step(x, 4, "gwwg m");
     Check.fails("colourOf(4)", INDEX, () -> x.colourOf(4));
     Check.fails("colourOf(-1)", INDEX, () -> x.colourOf(-1));
     x.commit(1);
     x.collect(4);
-    Check.sameText("a whole cycle on", colours(x, 4), "bb-b s");
+    Check.sameText("a whole cycle on", Look.colours(x, 4), "bb-b s");
     step(x, 4, "gw-w m");
   }
 
@@ -217,7 +209,7 @@ public final class CollectorTest {
     z.link(0, 0, 0, 1);
     z.commit(0);
     z.collect(2);
-    Check.sameText("both are black", colours(z, 2), "bb e");
+    Check.sameText("both are black", Look.colours(z, 2), "bb e");
     z.begin(0);
     step(z, 2, "gw m");
     z.lock(0, 1);
@@ -226,7 +218,7 @@ public final class CollectorTest {
     z.commit(0);
     step(z, 2, "bw m");
     z.begin(1);
-    Check.sameText("nothing more", colours(z, 2), "bw m");
+    Check.sameText("nothing more", Look.colours(z, 2), "bw m");
     step(z, 2, "b- s");
   }
 
@@ -262,26 +254,26 @@ public final class CollectorTest {
     x.begin(0);
     x.lock(0, 0);
     x.link(0, 0, 1, 2);
-    Check.sameText("a weak reference does not", colours(x, 4), "gwww m");
+    Check.sameText("a weak reference does not", Look.colours(x, 4), "gwww m");
     x.link(0, 0, 0, -1);
     x.setRoot(0, 1, -1);
-    Check.sameText("none does not", colours(x, 4), "gwww m");
+    Check.sameText("none does not", Look.colours(x, 4), "gwww m");
     x.link(0, 0, 0, 3);
-    Check.sameText("a reference does", colours(x, 4), "gwwg m");
+    Check.sameText("a reference does", Look.colours(x, 4), "gwwg m");
     x.setRoot(0, 1, 2);
-    Check.sameText("a root does", colours(x, 4), "gwgg m");
+    Check.sameText("a root does", Look.colours(x, 4), "gwgg m");
     step(x, 4, "bggg m");
     x.link(0, 0, 0, 0);
-    Check.sameText("black ones stay", colours(x, 4), "bggg m");
+    Check.sameText("black ones stay", Look.colours(x, 4), "bggg m");
     x.setRoot(0, 2, 1);
-    Check.sameText("grey ones stay", colours(x, 4), "bggg m");
+    Check.sameText("grey ones stay", Look.colours(x, 4), "bggg m");
   }
 
   private static void noBarrierElsewhere() {
     MarrowHeap x = with(0, 0);
     x.link(0, 0, 0, 1);
     x.setRoot(0, 0, 1);
-    Check.sameText("phase i", colours(x, 2), "ww i");
+    Check.sameText("phase i", Look.colours(x, 2), "ww i");
   }
 
   private static void newObjectsAreBlack() {
@@ -289,13 +281,13 @@ public final class CollectorTest {
     x.collect(1);
     x.begin(0);
     x.make(0, 0);
-    Check.sameText("phase m", colours(x, 1), "b m");
+    Check.sameText("phase m", Look.colours(x, 1), "b m");
     x.commit(0);
     step(x, 1, "w m");
     step(x, 1, "- s");
     x.begin(0);
     x.make(0, 0);
-    Check.sameText("phase s", colours(x, 2), "-b s");
+    Check.sameText("phase s", Look.colours(x, 2), "-b s");
     x.commit(0);
   }
 
@@ -309,7 +301,7 @@ public final class CollectorTest {
     x.setRoot(0, 0, 0);
     x.commit(0);
     x.collect(3);
-    Check.sameText("marked", colours(x, 5), "bwwbw m");
+    Check.sameText("marked", Look.colours(x, 5), "bwwbw m");
     step(x, 5, "bwwbw w");
     x.begin(0);
     x.lock(0, 0);
@@ -374,7 +366,7 @@ public final class CollectorTest {
     x.lock(0, 0);
     x.link(0, 0, 0, 0);
     Check.same("two steps, then hindered", x.collect(9), 2);
-    Check.sameText("in w", colours(x, 2), "bw w");
+    Check.sameText("in w", Look.colours(x, 2), "bw w");
     Check.same("still hindered", x.collect(1), 0);
     Check.same("the weak reference is there", x.follow(0, 0, 1), 1);
     Check.same("no cycle", x.cycles(), 0);
@@ -395,7 +387,7 @@ public final class CollectorTest {
     step(x, 3, "b-b s");
     step(x, 3, "g-g m");
     x.collect(2);
-    Check.sameText("they are kept", colours(x, 3), "b-b m");
+    Check.sameText("they are kept", Look.colours(x, 3), "b-b m");
     step(x, 3, "g-g m");
     Check.same("they do not wait twice", x.ends(), 2);
     Check.no("not ended", x.isEnded(0));
@@ -514,13 +506,13 @@ public final class CollectorTest {
     x.lock(0, 6);
     x.link(0, 6, 0, 6);
     x.collect(3);
-    Check.sameText("marked", colours(x, 7), "wbwwwwb m");
+    Check.sameText("marked", Look.colours(x, 7), "wbwwwwb m");
     Check.same("used", x.usedOf(0), 15);
     step(x, 7, "-bwwwwb s");
     Check.same("used behind it", x.usedOf(0), 12);
     Check.same("freed", x.freed(), 1);
     Check.same("three more, then hindered", x.collect(9), 3);
-    Check.sameText("where it stands", colours(x, 7), "-b---wb s");
+    Check.sameText("where it stands", Look.colours(x, 7), "-b---wb s");
     Check.same("hindered", x.collect(1), 0);
     x.commit(0);
     step(x, 7, "-b----b s");
@@ -610,9 +602,9 @@ public final class CollectorTest {
     x.setRoot(0, 0, 0);
     x.commit(0);
     x.collect(2);
-    Check.sameText("in m", colours(x, 3), "bgw m");
+    Check.sameText("in m", Look.colours(x, 3), "bgw m");
     x.crash(-1, 0);
-    Check.sameText("in m still", colours(x, 3), "bgw m");
+    Check.sameText("in m still", Look.colours(x, 3), "bgw m");
     step(x, 3, "bbw m");
     step(x, 3, "bbb e");
     x.crash(-1, 0);
@@ -646,8 +638,8 @@ public final class CollectorTest {
     x.lock(0, 0);
     x.link(0, 0, 0, -1);
     x.link(0, 0, 0, 1);
-    Check.sameText("grey by the link", colours(x, 2), "gg m");
+    Check.sameText("grey by the link", Look.colours(x, 2), "gg m");
     x.abort(0);
-    Check.sameText("grey behind the abort", colours(x, 2), "gg m");
+    Check.sameText("grey behind the abort", Look.colours(x, 2), "gg m");
   }
 }

@@ -87,6 +87,12 @@ final class Edge {
     Check.fails(about + ": " + what, due, call);
   }
 
+  /** One step of the collector, and the colours of the first objects and the phase behind it. */
+  static void step(MarrowHeap x, int count, String due) {
+    same("a step", x.collect(1), 1);
+    sameText("colours and phase", Look.colours(x, count), due);
+  }
+
   /** A call that is refused in this scene, and behind which nothing has changed: neither at once nor later. */
   static void refuses(Scene scene, String what, Class<? extends RuntimeException> due, Consumer<MarrowHeap> call) {
     MarrowHeap x = scene.fresh();

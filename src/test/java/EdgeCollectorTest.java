@@ -38,29 +38,7 @@ public final class EdgeCollectorTest {
 
   /** Kind 0: fields 0 'r', 1 'w'; kind 1 below it has an end. Transaction 0 has made these and is open. */
   private static MarrowHeap with(int... kinds) {
-    MarrowHeap x = new MarrowHeap();
-    x.addKind(-1, false);
-    x.addKind(0, true);
-    x.addField(0, 'r');
-    x.addField(0, 'w');
-    x.begin(0);
-    for (int kind : kinds) {
-      x.make(0, kind);
-    }
-    return x;
-  }
-
-  private static String colours(MarrowHeap x, int count) {
-    StringBuilder text = new StringBuilder();
-    for (int object = 0; object < count; object++) {
-      text.append(x.exists(object) ? x.colourOf(object) : '-');
-    }
-    return text.append(' ').append(x.phase()).toString();
-  }
-
-  private static void step(MarrowHeap x, int count, String due) {
-    Edge.same("a step", x.collect(1), 1);
-    Edge.sameText("colours and phase", colours(x, count), due);
+    return Scene.ending("rw", kinds);
   }
 
   // ---- promises 20 to 22
@@ -387,7 +365,7 @@ public final class EdgeCollectorTest {
     x.collect(1);
     Edge.same("ended", x.cycles(), 1);
     Edge.same("the step was one of i", x.phase(), 'm');
-    Edge.sameText("all are white but those of roots and what waits", colours(x, 5), "gwg-g m");
+    Edge.sameText("all are white but those of roots and what waits", Look.colours(x, 5), "gwg-g m");
   }
 
   private static void startGreysWhatIsHeld() {
@@ -419,7 +397,7 @@ public final class EdgeCollectorTest {
     while (x.cycles() == 0) {
       x.collect(1);
     }
-    Edge.sameText("0 root, 1 not, 2 undone root, 3 root, 4 freed, 5 waits, 6 held", colours(x, 7), "gwgg-gg m");
+    Edge.sameText("0 root, 1 not, 2 undone root, 3 root, 4 freed, 5 waits, 6 held", Look.colours(x, 7), "gwgg-gg m");
   }
 
   private static void markGreysWhatWouldBeUndone() {
@@ -431,7 +409,7 @@ public final class EdgeCollectorTest {
     y.link(0, 3, 1, -1);
     y.setRoot(0, 0, -1);
     y.collect(1);
-    Edge.sameText("what is held, and the root", colours(y, 4), "gggg m");
+    Edge.sameText("what is held, and the root", Look.colours(y, 4), "gggg m");
     y.abort(0);
     MarrowHeap z = with(1, 0);
     z.link(0, 0, 0, 1);
@@ -441,9 +419,9 @@ public final class EdgeCollectorTest {
     z.callEnd(0);
     z.link(0, 0, 0, -1);
     z.collect(1);
-    Edge.sameText("1 is neither held nor reached now", colours(z, 2), "gw m");
+    Edge.sameText("1 is neither held nor reached now", Look.colours(z, 2), "gw m");
     z.collect(1);
-    Edge.sameText("but would be if it were undone", colours(z, 2), "bg m");
+    Edge.sameText("but would be if it were undone", Look.colours(z, 2), "bg m");
     MarrowHeap kept = with(1, 0);
     kept.link(0, 0, 0, 1);
     kept.commit(0);
@@ -454,7 +432,7 @@ public final class EdgeCollectorTest {
     kept.commit(0);
     kept.begin(0);
     kept.collect(1);
-    Edge.sameText("it is committed", colours(kept, 2), "ww m");
+    Edge.sameText("it is committed", Look.colours(kept, 2), "ww m");
   }
 
   private static void markComesBackWhenNoneIsGrey() {
@@ -464,18 +442,18 @@ public final class EdgeCollectorTest {
     x.link(0, 0, 0, 1);
     x.commit(0);
     x.collect(2);
-    step(x, 3, "bb- s");
-    step(x, 3, "gw- m");
+    Edge.step(x, 3, "bb- s");
+    Edge.step(x, 3, "gw- m");
     x.begin(1);
     x.lock(1, 1);
     x.begin(0);
     x.callEnd(0);
     x.link(0, 0, 0, -1);
     x.commit(0);
-    step(x, 3, "bw- m");
-    step(x, 3, "bg- m");
-    step(x, 3, "bb- m");
-    step(x, 3, "wg- m");
+    Edge.step(x, 3, "bw- m");
+    Edge.step(x, 3, "bg- m");
+    Edge.step(x, 3, "bb- m");
+    Edge.step(x, 3, "wg- m");
     Edge.same("there was none more: the next cycle", x.cycles(), 2);
   }
 
@@ -499,7 +477,7 @@ public final class EdgeCollectorTest {
     x.setRoot(0, 1, 1);
     x.commit(0);
     x.collect(3);
-    step(x, 4, "bbww w");
+    Edge.step(x, 4, "bbww w");
     x.begin(0);
     x.lock(0, 0);
     x.lock(0, 1);
@@ -507,7 +485,7 @@ public final class EdgeCollectorTest {
       Edge.same("0 has lost the white one alone", x.follow(0, 0, field), field == 5 ? -1 : 1);
       Edge.same("1 comes next", x.follow(0, 1, field), field % 2 == 0 ? 2 : 0);
     }
-    step(x, 4, "bbww w");
+    Edge.step(x, 4, "bbww w");
     for (int field = 0; field < 6; field++) {
       Edge.same("1 has lost all three", x.follow(0, 1, field), field % 2 == 0 ? -1 : 0);
     }
@@ -536,7 +514,7 @@ public final class EdgeCollectorTest {
       x.setRoot(0, 0, 0);
       x.commit(0);
       x.collect(2);
-      step(x, 2, "bw w");
+      Edge.step(x, 2, "bw w");
       x.begin(0);
       x.lock(0, 0);
       Edge.same("lost by field " + field, x.follow(0, 0, field), -1);
@@ -556,9 +534,9 @@ public final class EdgeCollectorTest {
     x.link(0, 0, 1, 2);
     x.commit(0);
     x.collect(1);
-    step(x, 3, "www w");
-    step(x, 3, "bbw e");
-    step(x, 3, "bb- s");
+    Edge.step(x, 3, "www w");
+    Edge.step(x, 3, "bbw e");
+    Edge.step(x, 3, "bb- s");
     x.begin(0);
     Edge.same("the first that waits", x.callEnd(0), 0);
     Edge.same("the reference stays", x.follow(0, 0, 0), 1);
@@ -600,11 +578,11 @@ public final class EdgeCollectorTest {
     x.link(0, 3, 1, 2);
     x.commit(0);
     x.collect(1);
-    step(x, 5, "wwwww w");
-    step(x, 5, "bbwww e");
-    step(x, 5, "bbwbw e");
-    step(x, 5, "bbwbb e");
-    step(x, 5, "bb-bb s");
+    Edge.step(x, 5, "wwwww w");
+    Edge.step(x, 5, "bbwww e");
+    Edge.step(x, 5, "bbwbw e");
+    Edge.step(x, 5, "bbwbb e");
+    Edge.step(x, 5, "bb-bb s");
     Edge.same("three wait", x.ends(), 3);
     x.collect(30);
     Edge.same("not twice", x.ends(), 3);
@@ -742,16 +720,16 @@ public final class EdgeCollectorTest {
     x.lock(0, 3);
     x.setRoot(0, 1, 0);
     x.link(0, 3, 1, 2);
-    Edge.sameText("in i it does not", colours(x, 4), "wwww i");
+    Edge.sameText("in i it does not", Look.colours(x, 4), "wwww i");
     x.commit(0);
     x.collect(1);
     x.begin(0);
     x.lock(0, 3);
     x.link(0, 3, 2, 1);
-    Edge.sameText("nor if it is weak", colours(x, 4), "gwwg m");
+    Edge.sameText("nor if it is weak", Look.colours(x, 4), "gwwg m");
     x.link(0, 3, 1, 2);
-    Edge.sameText("a reference", colours(x, 4), "gwgg m");
+    Edge.sameText("a reference", Look.colours(x, 4), "gwgg m");
     x.setRoot(0, 2, 1);
-    Edge.sameText("a root", colours(x, 4), "gggg m");
+    Edge.sameText("a root", Look.colours(x, 4), "gggg m");
   }
 }

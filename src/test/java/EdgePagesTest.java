@@ -66,14 +66,7 @@ public final class EdgePagesTest {
 
   /** Kind 0 has fields of these types, kind 1 none; transaction 0 is open. */
   private static MarrowHeap of(String types) {
-    MarrowHeap x = new MarrowHeap();
-    x.addKind(-1, false);
-    x.addKind(-1, false);
-    for (char type : types.toCharArray()) {
-      x.addField(0, type);
-    }
-    x.begin(0);
-    return x;
+    return Scene.plain(types, 0);
   }
 
   private static void make(MarrowHeap x, int transaction, int kind, int count) {

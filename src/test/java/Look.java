@@ -28,6 +28,15 @@ final class Look {
     return look.text.toString();
   }
 
+  /** The colours of the first objects, '-' for one that is not there, and the phase. */
+  static String colours(MarrowHeap x, int count) {
+    StringBuilder text = new StringBuilder();
+    for (int object = 0; object < count; object++) {
+      text.append(x.exists(object) ? x.colourOf(object) : '-');
+    }
+    return text.append(' ').append(x.phase()).toString();
+  }
+
   private void put(Supplier<Object> question) {
     try {
       text.append(question.get());

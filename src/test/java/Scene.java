@@ -24,6 +24,37 @@ final class Scene {
     return later[way];
   }
 
+  // ---- databases with a few objects
+
+  /** Kind 0 has fields of these types, kind 1 none; transaction 0 has made so many objects of kind 0 and is open. */
+  static MarrowHeap plain(String types, int objects) {
+    MarrowHeap x = twoKinds(types, -1, false);
+    for (int i = 0; i < objects; i++) {
+      x.make(0, 0);
+    }
+    return x;
+  }
+
+  /** Kind 0 has fields of these types, kind 1 below it an end; transaction 0 has made objects of these kinds. */
+  static MarrowHeap ending(String types, int... kinds) {
+    MarrowHeap x = twoKinds(types, 0, true);
+    for (int kind : kinds) {
+      x.make(0, kind);
+    }
+    return x;
+  }
+
+  private static MarrowHeap twoKinds(String types, int parent, boolean hasEnd) {
+    MarrowHeap x = new MarrowHeap();
+    x.addKind(-1, false);
+    x.addKind(parent, hasEnd);
+    for (char type : types.toCharArray()) {
+      x.addField(0, type);
+    }
+    x.begin(0);
+    return x;
+  }
+
   // ---- scenes that several tests use
 
   static final Scene EMPTY = of(MarrowHeap::new);

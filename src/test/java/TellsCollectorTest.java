@@ -19,30 +19,7 @@ public final class TellsCollectorTest {
 
   /** Kind 0: fields 0 'r', 1 'w', 2 'r'; kind 1 below it has an end. Transaction 0 has made these and is open. */
   private static MarrowHeap with(int... kinds) {
-    MarrowHeap x = new MarrowHeap();
-    x.addKind(-1, false);
-    x.addKind(0, true);
-    for (char type : "rwr".toCharArray()) {
-      x.addField(0, type);
-    }
-    x.begin(0);
-    for (int kind : kinds) {
-      x.make(0, kind);
-    }
-    return x;
-  }
-
-  private static String colours(MarrowHeap x, int count) {
-    StringBuilder text = new StringBuilder();
-    for (int object = 0; object < count; object++) {
-      text.append(x.exists(object) ? x.colourOf(object) : '-');
-    }
-    return text.append(' ').append(x.phase()).toString();
-  }
-
-  private static void step(MarrowHeap x, int count, String due) {
-    Edge.same("a step", x.collect(1), 1);
-    Edge.sameText("colours and phase", colours(x, count), due);
+    return Scene.ending("rwr", kinds);
   }
 
   /** The next cycle has a step in each phase: 0 -> 1, which has moved, and 0 -> 2 weakly; 2 has an end, 3 has none. */
@@ -99,9 +76,9 @@ public final class TellsCollectorTest {
     x.setRoot(0, 0, 0);
     x.setRoot(0, 1, 1);
     x.commit(0);
-    Edge.sameText("at first", colours(x, 3), "www i");
+    Edge.sameText("at first", Look.colours(x, 3), "www i");
     x.collect(1);
-    Edge.sameText("of roots", colours(x, 3), "ggw m");
+    Edge.sameText("of roots", Look.colours(x, 3), "ggw m");
     x.collect(1);
     Edge.says(22, "`object`: the object");
     Edge.same("of 0", x.colourOf(0), 'b');
@@ -274,13 +251,13 @@ public final class TellsCollectorTest {
     x.link(0, 4, 0, 1);
     x.setRoot(0, 0, 1);
     x.commit(0);
-    step(x, 5, "wgwww m");
-    step(x, 5, "wbggw m");
-    step(x, 5, "wbbgw m");
-    step(x, 5, "gbbbg m");
-    step(x, 5, "bbbbg m");
-    step(x, 5, "bbbbb m");
-    step(x, 5, "wgwww m");
+    Edge.step(x, 5, "wgwww m");
+    Edge.step(x, 5, "wbggw m");
+    Edge.step(x, 5, "wbbgw m");
+    Edge.step(x, 5, "gbbbg m");
+    Edge.step(x, 5, "bbbbg m");
+    Edge.step(x, 5, "bbbbb m");
+    Edge.step(x, 5, "wgwww m");
     Edge.same("the second cycle", x.cycles(), 1);
   }
 
@@ -305,8 +282,8 @@ public final class TellsCollectorTest {
       }
       x.setRoot(0, 0, 0);
       x.commit(0);
-      step(x, 7, "gwwwwww m");
-      step(x, 7, due + " m");
+      Edge.step(x, 7, "gwwwwww m");
+      Edge.step(x, 7, due + " m");
     }
   }
 
@@ -319,7 +296,7 @@ public final class TellsCollectorTest {
       other.collect(steps + 1);
       crashed.crash(-1, 0);
       for (int more = 0; more < 12; more++) {
-        Edge.sameText("behind " + steps + " steps", colours(crashed, 4), colours(other, 4));
+        Edge.sameText("behind " + steps + " steps", Look.colours(crashed, 4), Look.colours(other, 4));
         Edge.same("cycles", crashed.cycles(), other.cycles());
         Edge.same("freed", crashed.freed(), other.freed());
         Edge.same("ends", crashed.ends(), other.ends());

@@ -17,17 +17,7 @@ public final class TellsPagesTest {
 
   /** Kind 0: fields 0 'n', 1 'r', 2 'w'; kind 1: none. Transaction 0 has made so many of kind 0: four fill a page. */
   private static MarrowHeap with(int objects) {
-    MarrowHeap x = new MarrowHeap();
-    x.addKind(-1, false);
-    x.addKind(-1, false);
-    for (char type : "nrw".toCharArray()) {
-      x.addField(0, type);
-    }
-    x.begin(0);
-    for (int i = 0; i < objects; i++) {
-      x.make(0, 0);
-    }
-    return x;
+    return Scene.plain("nrw", objects);
   }
 
   // ---- promises 29 to 31

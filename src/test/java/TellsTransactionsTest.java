@@ -27,17 +27,7 @@ public final class TellsTransactionsTest {
 
   /** Kind 0: fields 0 'n', 1 'r', 2 'w', 3 'n', 4 'r'; kind 1: none. Transaction 0 made so many of kind 0. */
   private static MarrowHeap with(int objects) {
-    MarrowHeap x = new MarrowHeap();
-    x.addKind(-1, false);
-    x.addKind(-1, false);
-    for (char type : "nrwnr".toCharArray()) {
-      x.addField(0, type);
-    }
-    x.begin(0);
-    for (int i = 0; i < objects; i++) {
-      x.make(0, 0);
-    }
-    return x;
+    return Scene.plain("nrwnr", objects);
   }
 
   /** Root 0 is 0 -> 1 -> 2, root 1 is 3; all are committed, the transactions 0 and 1 are open and hold nothing. */
